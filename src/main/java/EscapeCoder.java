@@ -780,16 +780,20 @@ public final class EscapeCoder {
         }
 
         private void addNode(int context, int b) {
+            if (!isContext(context)) {
+                return;
+            }
             growNodes();
             int node = nodes;
             nodes++;
             nodeByte[node] = b;
             nodeCount[node] = 1;
             nodeNext[node] = NONE;
-            if (contextNodes[context] == 0) {
-                contextFirst[context] = node;
+            int last = contextLast[context];
+            if (isNode(last)) {
+                nodeNext[last] = node;
             } else {
-                nodeNext[contextLast[context]] = node;
+                contextFirst[context] = node;
             }
             contextLast[context] = node;
             contextNodes[context]++;
@@ -801,6 +805,8 @@ public final class EscapeCoder {
             contexts++;
             int bucket = bucketOf(key);
             contextKey[context] = key;
+            contextFirst[context] = NONE;
+            contextLast[context] = NONE;
             contextNodes[context] = 0;
             contextOlder[context] = bucketNewest[bucket];
             bucketNewest[bucket] = context;

@@ -3,6 +3,7 @@ public final class Promise02BeginTest {
     public static void main(String[] args) {
         limitsAreKeptTo();
         allIsEmptied();
+        resetsAndRescalingsToo();
         wrongLimitChangesNothing();
         limitIsObeyed();
         greatestLimitIsObeyed();
@@ -35,7 +36,6 @@ public final class Promise02BeginTest {
         Due.same("encode()", coder.encode(), 5);
     }
 
-    /** Resets and rescalings are of the latest run, so begin takes them back too. */
     private static void wrongLimitChangesNothing() {
         EscapeCoder coder = Make.encoded("a");
         coder.decode();
@@ -55,6 +55,14 @@ public final class Promise02BeginTest {
         Make.feed(small, "\1\2\3\4\1");
         small.encode();
         Due.same("resets by the limit of 4", small.count(4), 2);
+    }
+
+    private static void resetsAndRescalingsToo() {
+        EscapeCoder small = new EscapeCoder();
+        small.begin(4);
+        Make.feed(small, "\1\2\3\4\1");
+        small.encode();
+        Due.same("resets", small.count(4), 2);
         small.begin(4);
         Due.same("resets, begun", small.count(4), 0);
 

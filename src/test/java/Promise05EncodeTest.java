@@ -5,6 +5,7 @@ public final class Promise05EncodeTest {
         stepsAreDue();
         codeIsMadeAnew();
         textAndOutputStay();
+        leastRangeIsNotShifted();
         carriesGoUp();
         orderIsPassedOverWhenAllAreOut();
         everyByteOutLeavesEnd();
@@ -59,6 +60,18 @@ public final class Promise05EncodeTest {
         Make.textDue("encoded", coder, Make.OUTPUT, "ab");
     }
 
+    /** RANGE comes to be just 16777216 in the end, which is not below it. */
+    private static void leastRangeIsNotShifted() {
+        EscapeCoder coder = new EscapeCoder();
+        coder.begin(6);
+        Make.feed(coder, "decbcbbdde");
+        Due.same("encode()", coder.encode(), 13);
+        Make.bytesDue("least range", coder, Make.CODE, Make.hex("644e0af9d93c8f2e285fef0000"));
+        Make.countsDue("least range", coder, 17, 6, 9, 0, 3, 0, 16777216L, 0);
+        Due.same("decode()", coder.decode(), 10);
+        Make.countsDue("least range, read", coder, 17, 6, 9, 0, 3, 0, 16777216L, 0);
+    }
+
     /** Texts of one letter and END push LOW over many bytes of 255; the Reference carries by itself. */
     private static void carriesGoUp() {
         for (int b = 0; b < 256; b++) {
@@ -78,7 +91,7 @@ public final class Promise05EncodeTest {
         }
     }
 
-    /** In "aa" + END, all of order 1 and 0 are out behind the first escape. */
+    /** Behind "aaa", END escapes from order 2; then all of orders 1 and 0 are out. */
     private static void orderIsPassedOverWhenAllAreOut() {
         EscapeCoder coder = Make.encoded("aaa");
         Make.countsDue("aaa", coder, 5, 1);
