@@ -19,6 +19,19 @@ final class Make {
         return coder;
     }
 
+    static EscapeCoder begun(int limit, String text) {
+        EscapeCoder coder = new EscapeCoder();
+        Due.yes("begin(" + limit + ")", coder.begin(limit));
+        feed(coder, text);
+        return coder;
+    }
+
+    static EscapeCoder encoded(int limit, String text) {
+        EscapeCoder coder = begun(limit, text);
+        coder.encode();
+        return coder;
+    }
+
     static EscapeCoder encoded(String text) {
         EscapeCoder coder = withText(text);
         coder.encode();
@@ -62,6 +75,14 @@ final class Make {
         }
     }
 
+    /** A code is read, and all that comes of it is as it is due. */
+    static EscapeCoder decoded(String hex, int answer, String output) {
+        EscapeCoder coder = withCode(hex(hex));
+        Due.same("decode() of " + hex, coder.decode(), answer);
+        textDue("of " + hex, coder, OUTPUT, output);
+        return coder;
+    }
+
     static int[] hex(String digits) {
         int[] bytes = new int[digits.length() / 2];
         for (int i = 0; i < bytes.length; i++) {
@@ -72,6 +93,17 @@ final class Make {
 
     static String repeat(char c, int times) {
         return String.valueOf(c).repeat(times);
+    }
+
+    /** Bytes as by chance, but always the same ones. */
+    static String noise(int length) {
+        StringBuilder all = new StringBuilder();
+        long x = 1;
+        for (int i = 0; i < length; i++) {
+            x = x * 1103515245 + 12345 & 0x7fffffff;
+            all.append((char) (x >> 16 & 255));
+        }
+        return all.toString();
     }
 
     static String allBytes() {

@@ -1,58 +1,61 @@
-/** Promise 3: a byte comes behind the text; false if it is no byte, or there are 4000. */
+/** Promise 3, "feed". */
 public final class Promise03FeedTest {
     public static void main(String[] args) {
         bytesComeBehind();
-        wrongOnesDoNot();
+        notSuch();
+        thereAreFourThousand();
+        roomComesAgain();
         onlyTheTextChanges();
-        fourThousandAreAll();
         Due.end();
     }
 
     private static void bytesComeBehind() {
+        Due.sentence("Promise 3", "A byte (0 .. 255) comes behind the text.");
         EscapeCoder coder = new EscapeCoder();
-        String all = Make.allBytes();
-        Make.feed(coder, all.substring(0, 128));
-        Make.textDue("fed", coder, Make.TEXT, all.substring(0, 128));
-        EscapeCoder second = Make.withText(all.substring(128));
-        Make.textDue("fed", second, Make.TEXT, all.substring(128));
+        Due.yes("feed(255)", coder.feed(255));
+        Due.yes("feed(0)", coder.feed(0));
+        Make.bytesDue("fed", coder, Make.TEXT, 255, 0);
+        Make.feed(coder, Make.allBytes());
+        Make.textDue("fed", coder, Make.TEXT, "\377\0" + Make.allBytes());
     }
 
-    private static void wrongOnesDoNot() {
+    private static void notSuch() {
+        Due.sentence("Promise 3", "False: not such");
         EscapeCoder coder = Make.withText("x");
-        for (int b : new int[] {-1, 256, 257, -128, 1000, Integer.MIN_VALUE, Integer.MAX_VALUE}) {
+        for (int b : new int[] {-1, 256, 257, -128, -255, -256, 1000, Integer.MIN_VALUE, Integer.MAX_VALUE}) {
             Due.no("feed(" + b + ")", coder.feed(b));
+            Make.textDue("as before", coder, Make.TEXT, "x");
         }
-        Make.textDue("as before", coder, Make.TEXT, "x");
-    }
-
-    private static void onlyTheTextChanges() {
-        EscapeCoder coder = Make.encoded("a");
-        coder.decode();
-        coder.feed('b');
-        Make.textDue("fed", coder, Make.TEXT, "ab");
-        Make.bytesDue("as before", coder, Make.CODE, Make.hex("619de21d0100"));
-        Make.textDue("as before", coder, Make.OUTPUT, "a");
-        Make.countsDue("as before", coder, 3, 1, 2, 0, 0, 1, 2139160320L, 1);
-        Due.same("learnt(0, 0, 0, 'b')", coder.learnt(0, 0, 0, 'b'), 0);
+        Due.no("feed(256) of an empty text", new EscapeCoder().feed(256));
     }
 
     /** So many calls are more than the document promises; the number is the document's all the same. */
-    private static void fourThousandAreAll() {
-        EscapeCoder coder = new EscapeCoder();
-        for (int i = 0; i < 4000; i++) {
-            Due.yes("feed, the " + i + "th", coder.feed(i % 251));
-        }
-        Due.no("feed, one too many", coder.feed(1));
-        Due.same("size(0)", coder.size(Make.TEXT), 4000);
-        Due.same("at(0, 3999)", coder.at(Make.TEXT, 3999), 3999 % 251);
-        int codeBytes = coder.encode();
-        Due.same("size(1)", coder.size(Make.CODE), codeBytes);
-        Due.same("decode()", coder.decode(), 4000);
-        for (int i = 0; i < 4000; i++) {
-            Due.same("at(2, " + i + ")", coder.at(Make.OUTPUT, i), i % 251);
-        }
+    private static void thereAreFourThousand() {
+        Due.sentence("Promise 3", "there are 4000");
+        EscapeCoder coder = Make.withText(Make.noise(3999));
+        Due.yes("feed, the 4000th", coder.feed(7));
+        Due.no("feed, the 4001st", coder.feed(8));
+        Due.no("feed, no byte either", coder.feed(256));
+        Make.textDue("4000 bytes", coder, Make.TEXT, Make.noise(3999) + "\7");
+    }
+
+    private static void roomComesAgain() {
+        Due.sentence("Promise 3", "there are 4000");
+        EscapeCoder coder = Make.withText(Make.noise(4000));
         Due.yes("cut(3999)", coder.cut(3999));
         Due.yes("feed in the room again", coder.feed(1));
         Due.no("feed, one too many again", coder.feed(1));
+        coder.begin(4);
+        Due.yes("feed behind begin()", coder.feed(1));
+    }
+
+    private static void onlyTheTextChanges() {
+        Due.sentence("Promise 3", "A byte (0 .. 255) comes behind the text.");
+        EscapeCoder coder = Make.encoded("a");
+        coder.decode();
+        State before = new State(coder);
+        Due.yes("feed('b')", coder.feed('b'));
+        Make.textDue("fed", coder, Make.TEXT, "ab");
+        new State(coder).sameBut("behind feed", before, Make.TEXT);
     }
 }

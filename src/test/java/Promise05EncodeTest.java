@@ -1,20 +1,32 @@
-/** Promise 5: the code of the text and END. The codes that are due were worked out apart from the class. */
+/** Promise 5, "encode". The codes that are due were worked out apart from the class. */
 public final class Promise05EncodeTest {
+    private static final String TOLD = "The text and END are told by a model that is empty at first: the code is of them.";
+
     public static void main(String[] args) {
-        codesAreDue();
-        stepsAreDue();
-        codeIsMadeAnew();
+        emptyText();
+        codesOfTexts();
+        howManyBytes();
+        modelIsEmptyAtFirst();
+        codeOfBeforeGoes();
         textAndOutputStay();
-        leastRangeIsNotShifted();
-        carriesGoUp();
-        orderIsPassedOverWhenAllAreOut();
-        everyByteOutLeavesEnd();
+        longestText();
         Due.end();
     }
 
-    private static void codesAreDue() {
+    private static void emptyText() {
+        Due.sentence("Promise 5", TOLD);
         codeDue("", "ff00ff0000");
+        EscapeCoder coder = Make.encoded("");
+        Make.countsDue("END alone", coder, 1, 0, 1, 0, 0, 0, 4278255360L, 0);
+        Make.stepDue("END alone", coder, 0, 256, 1, 257, -1, 0);
+    }
+
+    private static void codesOfTexts() {
+        Due.sentence("Promise 5", TOLD);
         codeDue("a", "619de21d0100");
+        codeDue("\0", "00fe817e0100");
+        codeDue("\377", "ff007f7f0100");
+        codeDue("abcac", "614f88d77eb8dfde00");
         codeDue("abracadabra", "614f8c98539f7d2ca1286500");
         codeDue("aaaaaaaaaab", "60a6ccc0b1b7e800");
         codeDue("aab".repeat(90), "60f748b69f960333d32800");
@@ -27,82 +39,59 @@ public final class Promise05EncodeTest {
         Make.bytesDue("code of " + text, coder, Make.CODE, Make.hex(hex));
     }
 
-    private static void stepsAreDue() {
-        EscapeCoder coder = Make.encoded("aaaaaaaaaab");
-        Make.countsDue("aaaaaaaaaab", coder, 14, 2, 4, 0, 0, 6, 1527126016L, 3);
-        Make.stepDue("first, of any", coder, 0, 97, 1, 257, -1, 0);
-        Make.stepDue("order 1 has none", coder, 1, 0, 1, 2, 0, 0);
-        Make.stepDue("order 2 has none", coder, 2, 0, 1, 2, 1, 0);
-        Make.stepDue("order 2", coder, 3, 0, 1, 2, 2, 0);
-        Make.stepDue("order 2 seven times", coder, 9, 0, 7, 8, 2, 0);
-        Make.stepDue("escape of b", coder, 10, 8, 1, 9, 2, 1);
-        Make.stepDue("b with a out", coder, 11, 97, 1, 256, -1, 0);
-        Make.stepDue("END escapes", coder, 12, 3, 2, 5, 0, 1);
-        Make.stepDue("END with a, b out", coder, 13, 254, 1, 255, -1, 0);
+    private static void howManyBytes() {
+        Due.sentence("Promise 5", "How many bytes it has");
+        String all = Make.allBytes();
+        for (int length = 0; length <= all.length(); length += 16) {
+            EscapeCoder coder = Make.withText(all.substring(0, length));
+            int bytes = coder.encode();
+            Due.same("size(1)", coder.size(Make.CODE), bytes);
+            Due.same("4 and the shifts", 4 + coder.count(2), bytes);
+        }
     }
 
-    private static void codeIsMadeAnew() {
+    private static void modelIsEmptyAtFirst() {
+        Due.sentence("Promise 5", "told by a model that is empty at first");
+        EscapeCoder coder = Make.withText("abracadabra");
+        coder.encode();
+        State first = new State(coder);
+        Due.same("encode() again", coder.encode(), 12);
+        new State(coder).sameAs("encode() again", first);
+        Make.push(coder, 1);
+        coder.decode();
+        coder.encode();
+        new State(coder).sameBut("encode() behind decode()", first, Make.OUTPUT);
+    }
+
+    private static void codeOfBeforeGoes() {
+        Due.sentence("Promise 5", "the code is of them");
         EscapeCoder coder = Make.withText("a");
         Make.push(coder, 9, 9, 9, 9, 9, 9, 9, 9, 9, 9);
         Due.same("encode() over a pushed code", coder.encode(), 6);
         Make.bytesDue("code", coder, Make.CODE, Make.hex("619de21d0100"));
-        Due.same("encode() again", coder.encode(), 6);
-        Make.bytesDue("code again", coder, Make.CODE, Make.hex("619de21d0100"));
-        Make.countsDue("counts again", coder, 3, 1, 2, 0, 0, 1, 2139160320L, 1);
     }
 
     private static void textAndOutputStay() {
+        Due.sentence("Promise 5", TOLD);
         EscapeCoder coder = Make.encoded("ab");
         coder.decode();
         coder.feed('c');
+        State before = new State(coder);
         coder.encode();
-        Make.textDue("encoded", coder, Make.TEXT, "abc");
-        Make.textDue("encoded", coder, Make.OUTPUT, "ab");
+        new State(coder).sameBut("behind encode()", before, Make.CODE, 3);
     }
 
-    /** RANGE comes to be just 16777216 in the end, which is not below it. */
-    private static void leastRangeIsNotShifted() {
-        EscapeCoder coder = new EscapeCoder();
-        coder.begin(6);
-        Make.feed(coder, "decbcbbdde");
-        Due.same("encode()", coder.encode(), 13);
-        Make.bytesDue("least range", coder, Make.CODE, Make.hex("644e0af9d93c8f2e285fef0000"));
-        Make.countsDue("least range", coder, 17, 6, 9, 0, 3, 0, 16777216L, 0);
-        Due.same("decode()", coder.decode(), 10);
-        Make.countsDue("least range, read", coder, 17, 6, 9, 0, 3, 0, 16777216L, 0);
-    }
-
-    /** Texts of one letter and END push LOW over many bytes of 255; the Reference carries by itself. */
-    private static void carriesGoUp() {
-        for (int b = 0; b < 256; b++) {
-            for (int length = 1; length < 40; length += 3) {
-                sameAsReference(Make.repeat((char) b, length) + (char) 255 + (char) (255 - b));
-            }
-        }
-    }
-
-    private static void sameAsReference(String text) {
-        EscapeCoder coder = Make.withText(text);
+    /** So many calls are more than the document promises. */
+    private static void longestText() {
+        Due.sentence("Terms, THE TEXT", "THE TEXT has bytes, 4000 at most");
+        EscapeCoder coder = Make.withText(Make.noise(4000));
         Reference due = new Reference();
-        text.chars().forEach(due::feed);
+        Make.noise(4000).chars().forEach(due::feed);
         Due.same("encode()", coder.encode(), due.encode());
-        for (int i = 0; i < due.size(1); i++) {
-            Due.same("at(1, " + i + ")", coder.at(1, i), due.at(1, i));
+        for (int i = 0; i <= due.size(1); i++) {
+            Due.same("at(1, " + i + ")", coder.at(Make.CODE, i), due.at(1, i));
         }
-    }
-
-    /** Behind "aaa", END escapes from order 2; then all of orders 1 and 0 are out. */
-    private static void orderIsPassedOverWhenAllAreOut() {
-        EscapeCoder coder = Make.encoded("aaa");
-        Make.countsDue("aaa", coder, 5, 1);
-        Make.stepDue("aaa, END escapes once", coder, 3, 1, 1, 2, 2, 1);
-        Make.stepDue("aaa, END", coder, 4, 255, 1, 256, -1, 0);
-    }
-
-    private static void everyByteOutLeavesEnd() {
-        EscapeCoder coder = Make.encoded(Make.allBytes());
-        Make.countsDue("all bytes", coder, 513, 256, 243, 0, 0, 765, 268150886L, 510);
-        Make.stepDue("END's escape", coder, 511, 256, 256, 512, 0, 1);
-        Make.stepDue("END alone", coder, 512, 0, 1, 1, -1, 0);
+        Due.same("decode()", coder.decode(), 4000);
+        Make.textDue("output", coder, Make.OUTPUT, Make.noise(4000));
     }
 }

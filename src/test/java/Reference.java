@@ -15,6 +15,7 @@ final class Reference {
     private final List<Integer> text = new ArrayList<>();
     private final List<Integer> code = new ArrayList<>();
     private final List<Integer> output = new ArrayList<>();
+    private final int mostText;
     private int limit = 2000;
 
     private final Map<List<Integer>, LinkedHashMap<Integer, Integer>> model = new HashMap<>();
@@ -28,6 +29,15 @@ final class Reference {
     private long rescalings;
     private long resets;
     private int toldOrder;
+
+    Reference() {
+        this(4000);
+    }
+
+    /** With another greatest text than the document's, for what no text of 4000 bytes reaches. */
+    Reference(int mostText) {
+        this.mostText = mostText;
+    }
 
     boolean begin(int newLimit) {
         if (newLimit < 4 || newLimit > 6000) {
@@ -43,7 +53,7 @@ final class Reference {
     }
 
     boolean feed(int b) {
-        return addTo(text, b, 4000);
+        return addTo(text, b, mostText);
     }
 
     boolean cut(int n) {
