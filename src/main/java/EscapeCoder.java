@@ -256,6 +256,17 @@ public final class EscapeCoder {
         int byteAt(int i) {
             return i < 0 || i >= length ? BAD : bytes[i];
         }
+
+        /** The row as one number has one more. */
+        void carry() {
+            for (int i = length - 1; i >= 0; i--) {
+                if (bytes[i] < BYTE_KINDS - 1) {
+                    bytes[i]++;
+                    return;
+                }
+                bytes[i] = 0;
+            }
+        }
     }
 
     /** The steps of the latest run, each packed into one number to keep the room small. */
@@ -402,7 +413,7 @@ public final class EscapeCoder {
             low += by;
             if (low > LOW_MASK) {
                 low &= LOW_MASK;
-                carry();
+                code.carry();
             }
         }
 
@@ -423,17 +434,6 @@ public final class EscapeCoder {
                 code.add((int) (low >>> bits & 255));
             }
             return true;
-        }
-
-        private void carry() {
-            for (int i = code.length() - 1; i >= 0; i--) {
-                int b = code.byteAt(i);
-                if (b < 255) {
-                    code.put(i, b + 1);
-                    return;
-                }
-                code.put(i, 0);
-            }
         }
     }
 
@@ -481,7 +481,8 @@ public final class EscapeCoder {
         private final Model model;
         private final StepRow steps;
         private final int[] outSince;
-        private final int[] live;
+        private final int[] liveByte;
+        private final int[] liveCount;
         private int lives;
         private int liveTotal;
         private int turn;
@@ -492,7 +493,8 @@ public final class EscapeCoder {
             this.model = model;
             this.steps = steps;
             this.outSince = new int[BYTE_KINDS];
-            this.live = new int[BYTE_KINDS];
+            this.liveByte = new int[BYTE_KINDS];
+            this.liveCount = new int[BYTE_KINDS];
         }
 
         int toldOrder() {
@@ -516,15 +518,18 @@ public final class EscapeCoder {
             return tellPlainly(symbol, interval);
         }
 
+        /** Those nodes of a context whose bytes are not OUT are live. */
         private void gather(int context) {
             lives = 0;
             liveTotal = 0;
             int node = model.firstNode(context);
-            for (int i = model.nodesIn(context); i > 0 && lives < live.length; i--) {
-                if (!isOut(model.byteOf(node))) {
-                    live[lives] = node;
+            for (int i = model.nodesIn(context); i > 0 && lives < BYTE_KINDS; i--) {
+                int b = model.byteOf(node);
+                if (!isOut(b)) {
+                    liveByte[lives] = b;
+                    liveCount[lives] = model.countOf(node);
+                    liveTotal += liveCount[lives];
                     lives++;
-                    liveTotal += model.countOf(node);
                 }
                 node = model.nextNode(node);
             }
@@ -535,11 +540,11 @@ public final class EscapeCoder {
             int place = interval.placeIn(whole, liveBeginOf(symbol));
             int begins = 0;
             for (int i = 0; i < lives; i++) {
-                int part = model.countOf(live[i]);
+                int part = liveCount[i];
                 if (place < begins + part) {
                     interval.narrow(begins, part, whole);
                     steps.add(begins, part, whole, order, false);
-                    return model.byteOf(live[i]);
+                    return liveByte[i];
                 }
                 begins += part;
             }
@@ -553,19 +558,18 @@ public final class EscapeCoder {
         private int liveBeginOf(int symbol) {
             int begins = 0;
             for (int i = 0; i < lives; i++) {
-                if (model.byteOf(live[i]) == symbol) {
+                if (liveByte[i] == symbol) {
                     return begins;
                 }
-                begins += model.countOf(live[i]);
+                begins += liveCount[i];
             }
             return begins;
         }
 
         private void putLiveOut() {
             for (int i = 0; i < lives; i++) {
-                int b = model.byteOf(live[i]);
-                if (isByte(b)) {
-                    outSince[b] = turn;
+                if (isByte(liveByte[i])) {
+                    outSince[liveByte[i]] = turn;
                 }
             }
             outs += lives;

@@ -19,6 +19,7 @@ public final class TermCodeTest {
         lowGrowsIntoTheByteAbove();
         lowGrowsOverOneFullByte();
         lowGrowsOverTwoFullBytes();
+        lowGrowsToFullBytesAlone();
         lowGrowsInManyTexts();
         zerosInFrontAreWritten();
         zerosBehindAreWritten();
@@ -119,6 +120,15 @@ public final class TermCodeTest {
         codeDue(4, "\0\0\2\0\0\0\2", "004000000eefeffd0000", 10, 2, 6, 0, 3, 0, 264306688L, 0);
         codeDue(2000, "\375\357\346\350\377\347\367\364\365\357\351\353\356",
                 "fcfafef6c3b97dc84c2f37e3000073d6936600", 27, 13, 15, 0, 0, 35, 2033359360L, 23);
+    }
+
+    /** On the way, LOW's last four bytes come to be 255 each: nothing goes into the byte above. */
+    private static void lowGrowsToFullBytesAlone() {
+        Due.sentence(OF, "LOW grows by r a");
+        codeDue(2000, "\271\272\271\266\271\272\271\271\267\270\267\271", "b9237afd3d6fe1032d3b1ad600",
+                23, 10, 9, 0, 0, 23, 3082824192L, 14);
+        codeDue(15, "\21\24\20\23\20\21\25\24\23\21\25\17", "11784bda5f2b249e25ed7507218b587500",
+                25, 12, 13, 0, 1, 15, 972458752L, 9);
     }
 
     /** Texts of one letter and END push LOW over many bytes of 255; the Reference carries by itself. */

@@ -14,6 +14,7 @@ public final class TermReadTest {
     public static void main(String[] args) {
         noByteAtAll();
         oneTwoAndThreeBytes();
+        readAnew();
         greatestValueOfAll();
         placeBehindTheWholeInOrderMinusOne();
         placeBehindTheWholeInAnEscape();
@@ -52,6 +53,17 @@ public final class TermReadTest {
         one.decode();
         Due.same("size(2) of 97", one.size(Make.OUTPUT), 1846);
         Make.countsDue("of 97", one, 2603, 756, 786, 0, 0, 1446, 674383104L, 582);
+    }
+
+    private static void readAnew() {
+        Due.sentence(OF, "LOW and RANGE as above");
+        EscapeCoder coder = Make.decoded("ff00ff0000", 0, "");
+        Make.countsDue("read", coder, 1, 0, 1, 0, 0, 0, 4278255360L, 0);
+        coder.change(0, 0);
+        coder.decode();
+        coder.change(0, 255);
+        Due.same("decode(), behind another", coder.decode(), 0);
+        Make.countsDue("read again", coder, 1, 0, 1, 0, 0, 0, 4278255360L, 0);
     }
 
     /** 4294967295 / 16711935 is 257, one too many. */

@@ -16,6 +16,7 @@ public final class TermTellTest {
         noneAreOutAtFirst();
         emptyContextIsPassedOver();
         contextWithAllOutIsPassedOver();
+        wholeIsCountsAndNodes();
         firstOfThem();
         oneInTheMiddle();
         lastOfThem();
@@ -74,6 +75,14 @@ public final class TermTellTest {
         Make.countsDue("aaa", coder, 5, 1);
         Make.stepDue("END escapes once", coder, 3, 1, 1, 2, 2, 1);
         Make.stepDue("END", coder, 4, 255, 1, 256, -1, 0);
+    }
+
+    private static void wholeIsCountsAndNodes() {
+        Due.sentence(OF, "Else T is the sum of their counts, Q how many they are; a STEP is made of the whole T + Q");
+        Make.stepDue("1 + 1, the least", Make.encoded("aa"), 1, 0, 1, 2, 0, 0);
+        Make.stepDue("2 and 1, 1, 1 + 4", Make.encoded("abracadabra"), 9, 0, 2, 9, 0, 0);
+        Make.stepDue("255 + 1", Make.encoded(Make.repeat('a', 258)), 257, 0, 255, 256, 2, 0);
+        Make.stepDue("256 + 256, all bytes", Make.encoded(Make.allBytes() + "\0"), 511, 0, 1, 512, 0, 0);
     }
 
     private static void firstOfThem() {
