@@ -437,7 +437,10 @@ public final class EscapeCoder {
         }
     }
 
-    /** Holds VALUE less LOW: of both, only this is asked for, and it stays below RANGE. */
+    /**
+     * Holds VALUE less LOW: of both, only this is asked for. It stays below RANGE, but for a code that
+     * begins with four bytes of 255; of that the first step tells END, so it never grows beyond a long.
+     */
     private static final class CodeReader extends Interval {
         private final ByteRow code;
         private long ahead;
